@@ -594,7 +594,7 @@ public final class PlaneCells {
             }
         }
 
-        /** Puts the y at which p is 0 among those of the polynomials before p; without one their cell is 0. */
+        /** Puts the y at which p is 0 among those of the ones before p; whoever has none has cell 0. */
         private void addZero(int column, int p) {
             int cell = 1;
             for (int q = 0; q < p; q++) {
