@@ -317,7 +317,8 @@ public final class BoundariesTest {
         due("3: none of its polynomials is left", fewer.coefficient(1, 0), NONE);
     }
 
-    // Promise 4: "Of the latest decide: the place at which it is ill-formed; -1 if it isn't (with ROOM, too), or there was none."
+    // Promise 4: "Of the latest decide: the place at which it is ill-formed; -1 if it isn't (with ROOM, too),
+    // or there was none."
 
     private static void placeOfIll() {
         due("4: the first place", decided("?").place(), 0);
@@ -353,7 +354,8 @@ public final class BoundariesTest {
         }
     }
 
-    /** Promise 5: "How many polynomials the sentence has that was decided last; 0 if it was ILL or ROOM, or there was none." */
+    /** Promise 5: "How many polynomials the sentence has that was decided last; 0 if it was ILL or ROOM,
+     * or there was none." */
     private static void polynomialsCounted() {
         due("5: there was none", new PlaneCells().polynomials(), 0);
         PlaneCells plane = new PlaneCells();
