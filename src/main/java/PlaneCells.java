@@ -181,10 +181,12 @@ public final class PlaneCells {
             atoms++;
         }
 
-        /** There is room, since each step stands for at least one character of the text. */
+        /** The room is never short, since each step stands for at least one character of the text. */
         void addStep(int step) {
-            steps[stepCount] = step;
-            stepCount++;
+            if (stepCount < TEXT_ROOM) {
+                steps[stepCount] = step;
+                stepCount++;
+            }
         }
 
         boolean fits() {
@@ -307,6 +309,7 @@ public final class PlaneCells {
             }
         }
 
+        /** One of the parentheses that wait is there for each that is open, and release stops at it. */
         private void takeClosings() {
             for (; open > 0 && peek() == ')'; at++) {
                 release(OR);
@@ -325,10 +328,12 @@ public final class PlaneCells {
             return true;
         }
 
-        /** There is room, since each that waits is one character of the text. */
+        /** The room is never short, since each that waits is one character of the text. */
         private void hold(int operator) {
-            waiting[waitingCount] = operator;
-            waitingCount++;
+            if (waitingCount < TEXT_ROOM) {
+                waiting[waitingCount] = operator;
+                waitingCount++;
+            }
         }
 
         /** Writes out what binds at least as the given operator does, up to the latest open parenthesis. */
@@ -482,6 +487,14 @@ public final class PlaneCells {
                 if (difference > 0) {
                     break;
                 }
+            }
+            insert(k, newTop, newRadicand, newBottom);
+        }
+
+        /** The room is never short: it has a place for each zero that a form can have. */
+        private void insert(int k, int newTop, int newRadicand, int newBottom) {
+            if (count >= CRITICAL_ROOM) {
+                return;
             }
             for (int i = count; i > k; i--) {
                 top[i] = top[i - 1];
